@@ -18,28 +18,28 @@ public final class CurveKeys {
     private static final int NOT_GOOD = 3;
 
     private final Key[] keys;
-    private final byte[] shown;
+    private final byte[] result;
     private final int[] verdicts;
     private final Ladder ladder;
     private final Edwards edwards;
     private final Signatures signatures;
     private Row tape;
-    private Row text;
+    private Row message;
     private int keyCount;
-    private int shownLength;
+    private int resultLength;
     private int signed;
     private int zeroAgreements;
 
     public CurveKeys() {
         Field field = new Field();
         keys = new Key[KEY_LIMIT];
-        shown = new byte[SIGNATURE_BYTES];
+        result = new byte[SIGNATURE_BYTES];
         verdicts = new int[4];
         ladder = new Ladder(field);
         edwards = new Edwards(field);
         signatures = new Signatures(edwards);
         tape = new Row();
-        text = new Row();
+        message = new Row();
     }
 
     public int feed(int a, int b, int c, int d, int e) throws IllegalStateException {
@@ -81,21 +81,21 @@ public final class CurveKeys {
             throw new IllegalArgumentException("no such shape");
         }
         if (shape == SHAPE_AGREE) {
-            ladder.writePublicKey(shown, opened.secret);
+            ladder.writePublicKey(result, opened.secret);
         } else {
             signatures.makeReady(opened);
-            System.arraycopy(opened.publicKey, 0, shown, 0, KEY_BYTES);
+            System.arraycopy(opened.publicKey, 0, result, 0, KEY_BYTES);
         }
-        shownLength = KEY_BYTES;
+        resultLength = KEY_BYTES;
     }
 
     public boolean agree(int key) throws NoSuchElementException, IllegalArgumentException {
         Key mine = existingKey(key);
         requireTape(KEY_BYTES);
-        ladder.writeProduct(shown, mine.secret, tape.bytes);
-        shownLength = KEY_BYTES;
+        ladder.writeProduct(result, mine.secret, tape.bytes);
+        resultLength = KEY_BYTES;
         tape.length = 0;
-        boolean agreed = !isZero(shown, KEY_BYTES);
+        boolean agreed = !isZeroStart(result);
         if (!agreed) {
             zeroAgreements++;
         }
@@ -104,23 +104,23 @@ public final class CurveKeys {
 
     public int message() {
         Row taken = tape;
-        tape = text;
+        tape = message;
         tape.length = 0;
-        text = taken;
-        return text.length;
+        message = taken;
+        return message.length;
     }
 
     public void sign(int key) throws NoSuchElementException {
         Key signer = existingKey(key);
         signatures.makeReady(signer);
-        signatures.writeSignature(shown, signer, text);
-        shownLength = SIGNATURE_BYTES;
+        signatures.writeSignature(result, signer, message);
+        resultLength = SIGNATURE_BYTES;
         signed++;
     }
 
     public int verify() throws IllegalArgumentException {
         requireTape(KEY_BYTES + SIGNATURE_BYTES);
-        int verdict = signatures.judge(tape.bytes, text);
+        int verdict = signatures.judge(tape.bytes, message);
         tape.length = 0;
         verdicts[verdict]++;
         return verdict;
@@ -131,21 +131,21 @@ public final class CurveKeys {
         boolean isPoint = edwards.find(tape.bytes);
         tape.length = 0;
         if (isPoint) {
-            edwards.writeFoundX(shown);
-            shownLength = KEY_BYTES;
+            edwards.writeFoundX(result);
+            resultLength = KEY_BYTES;
         }
         return isPoint;
     }
 
     public int back(int at, int with) throws IndexOutOfBoundsException, IllegalStateException {
-        if (at < -1 || at >= shownLength) {
+        if (at < -1 || at >= resultLength) {
             throw new IndexOutOfBoundsException("the result has no such byte");
         }
-        if (!tape.hasRoomFor(shownLength)) {
+        if (!tape.hasRoomFor(resultLength)) {
             throw new IllegalStateException("the tape has no room for the result");
         }
         int start = tape.length;
-        tape.append(shown, shownLength);
+        tape.append(result, resultLength);
         if (at >= 0) {
             tape.bytes[start + at] ^= (byte) with;
         }
@@ -153,10 +153,10 @@ public final class CurveKeys {
     }
 
     public int result(int i) throws IndexOutOfBoundsException {
-        if (i < 0 || i >= shownLength) {
+        if (i < 0 || i >= resultLength) {
             throw new IndexOutOfBoundsException("the result has no such byte");
         }
-        return shown[i] & 255;
+        return result[i] & 255;
     }
 
     public int count(int what) {
@@ -166,9 +166,9 @@ public final class CurveKeys {
             case 1:
                 return keyCount;
             case 2:
-                return text.length;
+                return message.length;
             case 3:
-                return shownLength;
+                return resultLength;
             case 4:
                 return signed;
             case 5:
@@ -196,9 +196,10 @@ public final class CurveKeys {
         }
     }
 
-    private static boolean isZero(byte[] bytes, int length) {
+    /** Whether the first 32 bytes are all 0. */
+    private static boolean isZeroStart(byte[] bytes) {
         int all = 0;
-        for (int i = 0; i < length; i++) {
+        for (int i = 0; i < KEY_BYTES; i++) {
             all |= bytes[i];
         }
         return all == 0;
@@ -385,14 +386,14 @@ public final class CurveKeys {
             return 26 - (limb & 1);
         }
 
-        /** Reads 255 bits: the highest bit of the 32 bytes is left out. */
-        static void read(long[] h, byte[] from, int at) {
+        /** Reads 255 bits: the highest bit of the first 32 bytes is left out. */
+        static void read(long[] h, byte[] from) {
             for (int i = 0; i < LIMBS; i++) {
                 int firstByte = FIRST_BIT[i] >> 3;
                 int lastByte = Math.min(firstByte + 4, KEY_BYTES - 1);
                 long bits = 0;
                 for (int j = lastByte; j >= firstByte; j--) {
-                    bits = bits << 8 | from[at + j] & 255;
+                    bits = bits << 8 | from[j] & 255;
                 }
                 h[i] = bits >> (FIRST_BIT[i] & 7) & (1L << widthOf(i)) - 1;
             }
@@ -417,15 +418,15 @@ public final class CurveKeys {
             to[at] = (byte) bits;
         }
 
-        /** Leaves in spare the number's limbs without sign, less as often 2^255 - 19 as it goes in. */
+        /** Leaves the one form in spare: after a carry only the sign is open, and 2^255 - 19 mends it. */
         private void settle(long[] f) {
             System.arraycopy(f, 0, spare, 0, LIMBS);
             carry(spare);
-            long multiples = (19 * spare[9] + HALF_25) >> 25;
+            long sign = 0;
             for (int i = 0; i < LIMBS; i++) {
-                multiples = (spare[i] + multiples) >> widthOf(i);
+                sign = (spare[i] + sign) >> widthOf(i);
             }
-            long carried = 19 * multiples;
+            long carried = 19 * sign;
             for (int i = 0; i < LIMBS; i++) {
                 long limb = spare[i] + carried;
                 carried = limb >> widthOf(i);
@@ -499,7 +500,7 @@ public final class CurveKeys {
         void writeProduct(byte[] to, byte[] secret, byte[] other) {
             System.arraycopy(secret, 0, scalar, 0, KEY_BYTES);
             clamp(scalar);
-            Field.read(u, other, 0);
+            Field.read(u, other);
             climb();
             field.invert(lowZ, lowZ);
             Field.times(lowX, lowX, lowZ);
@@ -582,15 +583,15 @@ public final class CurveKeys {
             Field.subtract(less, p.y, p.x);
             Field.add(more, p.y, p.x);
             Field.add(twiceZ, p.z, p.z);
-            Field.times(twiceDT, p.t, Edwards.TWICE_D);
+            Field.times(twiceDT, p.t, Edwards.TWICE_CURVE_D);
         }
     }
 
     /** The Edwards shape of the curve: its points read, written, added and multiplied as RFC 8032 says. */
     private static final class Edwards {
-        private static final long[] D = {
+        private static final long[] CURVE_D = {
             56195235, 13857412, 51736253, 6949390, 114729, 24766616, 60832955, 30306712, 48412415, 21499315};
-        private static final long[] TWICE_D = {
+        private static final long[] TWICE_CURVE_D = {
             45281625, 27714825, 36363642, 13898781, 229458, 15978800, 54557047, 27058993, 29715967, 9444199};
         private static final long[] ROOT_OF_MINUS_1 = {
             34513072, 25610706, 9377949, 3500415, 12389472, 33281959, 41962654, 31548777, 326685, 11406482};
@@ -720,7 +721,7 @@ public final class CurveKeys {
 
         /** Whether the first 32 bytes are a point, which is found then. */
         boolean find(byte[] from) {
-            Field.read(g, from, 0);
+            Field.read(g, from);
             if (!isBelowPrime(from)) {
                 return false;
             }
@@ -728,7 +729,7 @@ public final class CurveKeys {
             field.raiseForRoot(e, d);
             Field.times(h, a, c);
             Field.times(h, h, e);
-            if (!isRoot() || !canTakeSign(from[KEY_BYTES - 1] >> 7 & 1)) {
+            if (!mendRoot() || !takeSign(from[KEY_BYTES - 1] >> 7 & 1)) {
                 return false;
             }
             found.setAffine(h, g);
@@ -749,7 +750,7 @@ public final class CurveKeys {
         private void setRatio() {
             Field.set(d, 1);
             Field.square(c, g);
-            Field.times(b, c, D);
+            Field.times(b, c, CURVE_D);
             Field.subtract(a, c, d);
             Field.add(b, b, d);
             Field.square(c, b);
@@ -759,8 +760,8 @@ public final class CurveKeys {
             Field.times(d, d, a);
         }
 
-        /** Whether h is a root of u / v; a root of -u / v is made into one. */
-        private boolean isRoot() {
+        /** Whether u / v has a root, which is in h then: a root of -u / v there is made into one. */
+        private boolean mendRoot() {
             Field.square(c, h);
             Field.times(c, c, b);
             Field.subtract(d, c, a);
@@ -772,9 +773,10 @@ public final class CurveKeys {
             return isMultipleOfPrime(d);
         }
 
-        /** Gives the root in h that sign, which 0 cannot have; form holds the root's bytes from the first look on. */
-        private boolean canTakeSign(int sign) {
-            if (isMultipleOfPrime(h) && sign == 1) {
+        /** Whether the root in h can have that sign, as 0 cannot; it has it then. */
+        private boolean takeSign(int sign) {
+            field.write(form, h);
+            if (sign == 1 && isZeroStart(form)) {
                 return false;
             }
             if ((form[0] & 1) != sign) {
@@ -785,7 +787,7 @@ public final class CurveKeys {
 
         private boolean isMultipleOfPrime(long[] number) {
             field.write(form, number);
-            return isZero(form, KEY_BYTES);
+            return isZeroStart(form);
         }
     }
 
@@ -832,11 +834,9 @@ public final class CurveKeys {
         }
 
         void take(byte[] from, int length) {
-            int part = 0;
-            for (int at = 0; at < length; at += part) {
-                part = Math.min(BLOCK - held, length - at);
-                System.arraycopy(from, at, block, held, part);
-                held += part;
+            for (int i = 0; i < length; i++) {
+                block[held] = from[i];
+                held++;
                 if (held == BLOCK) {
                     mix();
                     held = 0;
@@ -916,8 +916,8 @@ public final class CurveKeys {
         private static final long[] L = {
             0xed, 0xd3, 0xf5, 0x5c, 0x1a, 0x63, 0x12, 0x58, 0xd6, 0x9c, 0xf7, 0xa2, 0xde, 0xf9, 0xde, 0x14,
             0, 0, 0, 0, 0, 0, 0, 0, 0, 0, 0, 0, 0, 0, 0, 0x10};
-        /** L without its highest bit ends here. */
-        private static final int L_LOW_BYTES = 20;
+        /** The low part of L, which is L - 2^252, has 16 bytes; four more take up the carry. */
+        private static final int FOLDED_BYTES = 20;
         private static final int WIDE = 64;
 
         private final long[] wide = new long[WIDE];
@@ -932,7 +932,7 @@ public final class CurveKeys {
             return false;
         }
 
-        /** The remainder of a number of 64 bytes. */
+        /** The remainder by L of a number of 64 bytes. */
         void reduce(byte[] to, byte[] number) {
             for (int i = 0; i < WIDE; i++) {
                 wide[i] = number[i] & 255;
@@ -973,35 +973,38 @@ public final class CurveKeys {
                 foldPlace(i);
             }
             subtractMultiple(wide[KEY_BYTES - 1] >> 4);
-            long borrowed = wide[KEY_BYTES - 1] >> 63;
-            subtractMultiple(borrowed);
+            if (wide[KEY_BYTES - 1] < 0) {
+                subtractMultiple(-1);
+            }
             for (int i = 0; i < KEY_BYTES; i++) {
                 to[i] = (byte) wide[i];
             }
         }
 
-        /** Takes away 16 L as often as the place says, 256 places lower: 2^256 is 16 L less its low part. */
+        /** 2^256 is 16 L less 16 times the low part of L, so that the place goes over into 32 places lower ones. */
         private void foldPlace(int place) {
             long factor = 16 * wide[place];
             long carried = 0;
             int start = place - KEY_BYTES;
-            for (int i = 0; i < L_LOW_BYTES; i++) {
-                long low = i < 16 ? L[i] : 0;
-                long sum = wide[start + i] + carried - factor * low;
+            for (int i = 0; i < FOLDED_BYTES; i++) {
+                long sum = wide[start + i] + carried - factor * L[i];
                 carried = (sum + 128) >> 8;
                 wide[start + i] = sum - (carried << 8);
             }
-            wide[start + L_LOW_BYTES] += carried;
+            wide[start + FOLDED_BYTES] += carried;
             wide[place] = 0;
         }
 
+        /** Takes L away so often; the highest place keeps the sign. */
         private void subtractMultiple(long factor) {
+            int highest = KEY_BYTES - 1;
             long carried = 0;
-            for (int i = 0; i < KEY_BYTES; i++) {
+            for (int i = 0; i < highest; i++) {
                 long sum = wide[i] + carried - factor * L[i];
-                carried = i < KEY_BYTES - 1 ? sum >> 8 : 0;
-                wide[i] = i < KEY_BYTES - 1 ? sum & 255 : sum;
+                carried = sum >> 8;
+                wide[i] = sum & 255;
             }
+            wide[highest] += carried - factor * L[highest];
         }
     }
 
@@ -1037,31 +1040,31 @@ public final class CurveKeys {
             key.ready = true;
         }
 
-        void writeSignature(byte[] to, Key key, Row text) {
+        void writeSignature(byte[] to, Key key, Row message) {
             hash.begin();
             hash.take(key.prefix, KEY_BYTES);
-            hash.take(text.bytes, text.length);
+            hash.take(message.bytes, message.length);
             hash.finish(digest);
             order.reduce(r, digest);
             edwards.multiplyBase(r);
             edwards.writeSum(commitment);
-            hashChallenge(key.publicKey, text);
+            hashChallenge(key.publicKey, message);
             order.reduce(k, digest);
             order.multiplyAndAdd(s, k, key.scalar, r);
             System.arraycopy(commitment, 0, to, 0, KEY_BYTES);
             System.arraycopy(s, 0, to, KEY_BYTES, KEY_BYTES);
         }
 
-        private void hashChallenge(byte[] publicKey, Row text) {
+        private void hashChallenge(byte[] publicKey, Row message) {
             hash.begin();
             hash.take(commitment, KEY_BYTES);
             hash.take(publicKey, KEY_BYTES);
-            hash.take(text.bytes, text.length);
+            hash.take(message.bytes, message.length);
             hash.finish(digest);
         }
 
         /** The claim is a public key and a signature: 96 bytes. */
-        int judge(byte[] claim, Row text) {
+        int judge(byte[] claim, Row message) {
             System.arraycopy(claim, KEY_BYTES, commitment, 0, KEY_BYTES);
             System.arraycopy(claim, 2 * KEY_BYTES, s, 0, KEY_BYTES);
             if (!Order.isBelow(s)) {
@@ -1070,7 +1073,7 @@ public final class CurveKeys {
             if (!edwards.find(claim)) {
                 return NO_POINT;
             }
-            hashChallenge(claim, text);
+            hashChallenge(claim, message);
             order.reduceForAnyPoint(k, digest);
             edwards.subtractFromBase(s, k);
             edwards.writeSum(due);
