@@ -12,7 +12,10 @@ public final class AgreeTest {
         bothSidesAgree();
         numbersAtTheEdges();
         allZeroIsToldAndCounted();
-        wrongArguments();
+        otherFormsOfANumberAgreeAlike();
+        agreeIsRefusedWithoutTheKey();
+        agreeIsRefusedWithout32Bytes();
+        aMissingKeyIsToldBeforeAWrongTape();
         CHECK.finish();
     }
 
@@ -100,15 +103,14 @@ public final class AgreeTest {
     }
 
     private static void allZeroIsToldAndCounted() {
-        CurveKeys x = new CurveKeys();
-        Bytes.makeKey(x, Bytes.random(new Random(8), 32));
+        CurveKeys x = Made.with(1, 0);
         BigInteger[] zeros = {
             Reference.ZERO, Reference.ONE, Reference.P, Reference.P.add(Reference.ONE),
             Reference.P.subtract(Reference.ONE), Reference.ZERO.setBit(255), Reference.ONE.setBit(255),
             new BigInteger("325606250916557431795983626356110631294008115727848805560023387167927233504"),
             new BigInteger("39382357235489614581723060781553021112529911719440698176882885853963445705823")};
         for (int i = 0; i < zeros.length; i++) {
-            x.open(0, 1);
+            x.sign(0);
             Bytes.feed(x, Bytes.ofNumber(zeros[i]));
             CHECK.due("agree with " + zeros[i], x.agree(0), false);
             CHECK.due("THE RESULT", Bytes.result(x), new byte[32]);
@@ -117,19 +119,38 @@ public final class AgreeTest {
         }
     }
 
-    private static void wrongArguments() {
-        CurveKeys x = new CurveKeys();
-        Bytes.makeKey(x, new byte[32]);
-        x.open(0, 1);
-        for (int length : new int[] {0, 31, 33, 64, 96}) {
-            x.end(0);
-            Bytes.feed(x, new byte[length]);
-            CHECK.dueThrow("agree(0) of " + length, x, IllegalArgumentException.class, () -> x.agree(0));
-            CHECK.dueThrow("agree(1) of " + length, x, NoSuchElementException.class, () -> x.agree(1));
-            CHECK.dueThrow("agree(-1) of " + length, x, NoSuchElementException.class, () -> x.agree(-1));
+    /** RFC 7748 lets the highest bit of the other side's number go, and takes what is left modulo 2^255 - 19. */
+    private static void otherFormsOfANumberAgreeAlike() {
+        byte[] secret = Made.secret(0);
+        byte[] due = agreed(secret, Bytes.ofNumber(Reference.number(9)));
+        CHECK.due("9 with the highest bit", agreed(secret, Bytes.ofNumber(Reference.number(9).setBit(255))), due);
+        BigInteger above = Reference.P.add(Reference.number(9));
+        CHECK.due("p + 9", agreed(secret, Bytes.ofNumber(above)), due);
+        CHECK.due("p + 9 with the highest bit", agreed(secret, Bytes.ofNumber(above.setBit(255))), due);
+    }
+
+    private static void agreeIsRefused(int key, int length, Class<? extends RuntimeException> want) {
+        CHECK.dueRefusal("agree(" + key + ") of " + length, () -> Made.with(2, length), want, x -> x.agree(key));
+    }
+
+    private static void agreeIsRefusedWithoutTheKey() {
+        for (int key : new int[] {-1, 2, 99, 100, 256, Integer.MIN_VALUE, Integer.MAX_VALUE}) {
+            agreeIsRefused(key, 32, NoSuchElementException.class);
         }
-        x.end(32);
-        CHECK.dueThrow("agree(1) of 32", x, NoSuchElementException.class, () -> x.agree(1));
-        CHECK.dueThrow("agree(100) of 32", x, NoSuchElementException.class, () -> x.agree(100));
+        CHECK.dueRefusal("agree(100) with 100", () -> Made.with(100, 32), NoSuchElementException.class,
+                x -> x.agree(100));
+    }
+
+    private static void agreeIsRefusedWithout32Bytes() {
+        for (int length : new int[] {0, 1, 31, 33, 64, 96, 65536}) {
+            agreeIsRefused(1, length, IllegalArgumentException.class);
+        }
+    }
+
+    private static void aMissingKeyIsToldBeforeAWrongTape() {
+        for (int length : new int[] {0, 31, 33}) {
+            agreeIsRefused(-1, length, NoSuchElementException.class);
+            agreeIsRefused(2, length, NoSuchElementException.class);
+        }
     }
 }

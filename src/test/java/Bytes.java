@@ -56,15 +56,25 @@ final class Bytes {
         return other;
     }
 
-    /** Brings just these bytes to the end of the TAPE. */
+    /** Brings just these bytes to the end of the TAPE, also where they fill it: the last 20 of them go in one call. */
     static void feed(CurveKeys x, byte[] bytes) {
-        int due = x.count(0) + bytes.length;
-        ByteBuffer padded = ByteBuffer.wrap(Arrays.copyOf(bytes, bytes.length + 20));
-        for (int at = 0; at < bytes.length; at += 20) {
-            x.feed(padded.getInt(at), padded.getInt(at + 4), padded.getInt(at + 8),
-                    padded.getInt(at + 12), padded.getInt(at + 16));
+        int start = x.count(0);
+        int length = bytes.length;
+        for (int at = 0; at + 20 <= length; at += 20) {
+            feed20(x, bytes, at);
         }
-        x.end(due);
+        if (length >= 20) {
+            x.end(start + length - 20);
+            feed20(x, bytes, length - 20);
+        } else if (length > 0) {
+            feed20(x, Arrays.copyOf(bytes, 20), 0);
+            x.end(start + length);
+        }
+    }
+
+    private static void feed20(CurveKeys x, byte[] bytes, int at) {
+        ByteBuffer numbers = ByteBuffer.wrap(bytes, at, 20);
+        x.feed(numbers.getInt(), numbers.getInt(), numbers.getInt(), numbers.getInt(), numbers.getInt());
     }
 
     static int makeKey(CurveKeys x, byte[] secret) {

@@ -1,3 +1,6 @@
+import java.util.function.Consumer;
+import java.util.function.Supplier;
+
 /** Compares answers with what is due, prints those that differ, and ends the program with 1 if there was one. */
 final class Check {
     /** A call whose answer, or whose exception, is looked at. */
@@ -24,11 +27,15 @@ final class Check {
         due(what, Bytes.toHex(got), Bytes.toHex(want));
     }
 
-    /** The call throws just this exception, and no count and no byte of THE RESULT changes. */
-    void dueThrow(String what, CurveKeys x, Class<? extends RuntimeException> want, Call call) {
-        String before = stateOf(x);
-        due(what, outcome(call), want.getSimpleName());
-        due("the state after " + what, stateOf(x), before);
+    /** The call throws just this exception, and the object holds what one made alike holds that was not called so. */
+    void dueRefusal(String what, Supplier<CurveKeys> made, Class<? extends RuntimeException> want,
+            Consumer<CurveKeys> call) {
+        CurveKeys x = made.get();
+        due(what, outcome(() -> {
+            call.accept(x);
+            return "nothing thrown";
+        }), want.getSimpleName());
+        due("all that is held after " + what, Insight.into(x), Insight.into(made.get()));
     }
 
     /** What the call answers, or the name of what it throws. */
@@ -38,14 +45,6 @@ final class Check {
         } catch (RuntimeException e) {
             return e.getClass().getSimpleName();
         }
-    }
-
-    static String stateOf(CurveKeys x) {
-        StringBuilder state = new StringBuilder();
-        for (int what = 0; what <= 9; what++) {
-            state.append(x.count(what)).append(' ');
-        }
-        return state.append(Bytes.toHex(Bytes.result(x))).toString();
     }
 
     void finish() {

@@ -11,8 +11,9 @@ public final class PointTest {
         xOf0HasNoSign();
         pointsOfSmallOrder();
         randomNumbers();
-        theResultStaysIfThereIsNone();
-        wrongLengths();
+        noPointTakesTheTapeAndLeavesTheResult();
+        xHas32Bytes();
+        pointIsRefusedWithout32Bytes();
         CHECK.finish();
     }
 
@@ -73,26 +74,36 @@ public final class PointTest {
         }
     }
 
-    private static void theResultStaysIfThereIsNone() {
-        CurveKeys x = new CurveKeys();
-        Bytes.makeKey(x, new byte[32]);
-        x.sign(0);
+    private static void noPointTakesTheTapeAndLeavesTheResult() {
+        CurveKeys x = Made.with(1, 0);
         byte[] signature = Bytes.result(x);
         Bytes.feed(x, Bytes.ofNumber(Reference.P));
         CHECK.due("point() of p", x.point(), false);
         CHECK.due("THE RESULT after it", Bytes.result(x), signature);
         CHECK.due("the TAPE after it", x.count(0), 0);
-        Bytes.feed(x, Reference.encode(Reference.BASE));
-        CHECK.due("point() of the base", x.point(), true);
-        CHECK.due("THE RESULT after it", Bytes.result(x), Bytes.ofNumber(Reference.BASE[0]));
+        CurveKeys y = new CurveKeys();
+        Bytes.feed(y, Bytes.ofNumber(Reference.P));
+        CHECK.due("point() of p, THE RESULT being empty", y.point(), false);
+        CHECK.due("THE RESULT's length after it", y.count(3), 0);
+        CHECK.due("the TAPE after it", y.count(0), 0);
     }
 
-    private static void wrongLengths() {
-        CurveKeys x = new CurveKeys();
-        for (int length : new int[] {0, 31, 33, 64}) {
-            x.end(0);
-            Bytes.feed(x, new byte[length]);
-            CHECK.dueThrow("point() of " + length, x, IllegalArgumentException.class, () -> x.point());
+    /** An x of 0 is 32 bytes all the same, and a longer RESULT does not show behind it. */
+    private static void xHas32Bytes() {
+        CurveKeys x = Made.with(1, 0);
+        Bytes.feed(x, Bytes.ofNumber(Reference.ONE));
+        CHECK.due("point() of 1", x.point(), true);
+        CHECK.due("x of 1", Bytes.result(x), new byte[32]);
+        Bytes.feed(x, Reference.encode(Reference.BASE));
+        CHECK.due("point() of the base", x.point(), true);
+        CHECK.due("x of the base", Bytes.result(x),
+                Bytes.ofHex("1ad5258f602d56c9b2a7259560c72c695cdcd6fd31e2a4c0fe536ecdd3366921"));
+    }
+
+    private static void pointIsRefusedWithout32Bytes() {
+        for (int length : new int[] {0, 1, 31, 33, 64, 96, 65536}) {
+            CHECK.dueRefusal("point() of " + length, () -> Made.with(1, length), IllegalArgumentException.class,
+                    x -> x.point());
         }
     }
 }

@@ -11,7 +11,7 @@ public final class SignTest {
         messagesUpToAFullTape();
         manyKeys();
         signLeavesAllElse();
-        wrongArguments();
+        signIsRefusedWithoutTheKey();
         CHECK.finish();
     }
 
@@ -52,20 +52,11 @@ public final class SignTest {
         }
     }
 
-    /** feed wants room for 20 bytes, so the last bytes of a full TAPE come from THE RESULT. */
     private static void messagesUpToAFullTape() {
-        Random random = new Random(12);
-        byte[] secret = Bytes.random(random, 32);
-        byte[] tail = Reference.sign(secret, new byte[0]);
         for (int length : new int[] {1023, 1024, 1025, 2049, 10000, 65535, 65536}) {
-            CurveKeys x = new CurveKeys();
-            Bytes.makeKey(x, secret);
-            x.sign(0);
-            byte[] head = Bytes.random(random, length - tail.length);
-            Bytes.feed(x, head);
-            CHECK.due("back(-1, 0)", x.back(-1, 0), length);
-            CHECK.due("the signature of " + length, Bytes.signatureOfTape(x, 0),
-                    Reference.sign(secret, Bytes.join(head, tail)));
+            byte[] message = Made.tape(length);
+            CHECK.due("the signature of " + length, signed(Made.secret(0), message),
+                    Reference.sign(Made.secret(0), message));
         }
     }
 
@@ -103,15 +94,12 @@ public final class SignTest {
         CHECK.due("signatures made", x.count(4), 2);
     }
 
-    private static void wrongArguments() {
-        CurveKeys x = new CurveKeys();
-        Bytes.makeKey(x, new byte[32]);
-        x.open(0, 0);
-        for (int key : new int[] {-1, 1, 100, Integer.MIN_VALUE, Integer.MAX_VALUE}) {
-            CHECK.dueThrow("sign(" + key + ")", x, NoSuchElementException.class, () -> {
-                x.sign(key);
-                return 0;
-            });
+    private static void signIsRefusedWithoutTheKey() {
+        for (int key : new int[] {-1, 2, 99, 100, 256, Integer.MIN_VALUE, Integer.MAX_VALUE}) {
+            CHECK.dueRefusal("sign(" + key + ")", () -> Made.opened(20), NoSuchElementException.class,
+                    x -> x.sign(key));
         }
+        CHECK.dueRefusal("sign(100) with 100", () -> Made.with(100, 0), NoSuchElementException.class,
+                x -> x.sign(100));
     }
 }

@@ -17,13 +17,18 @@ public final class VerifyTest {
         goodSignatures();
         everyBitMatters();
         sMustBeBelowTheOrder();
-        theKeyMustBeAPoint();
+        theHighestAndTheLowestSAreGood();
+        yMustBeBelowThePrime();
+        thereMustBeAnX();
+        anXOf0HasNoSign();
         theFirstFaultIsTold();
         keysOfSmallOrderAreKeys();
+        justTheFirst32BytesAreDue();
         kIsTheWholeNumberOfTheHash();
+        aClaimOfZerosIsGood();
         noCofactorIsMultiplied();
         theTapeIsTaken();
-        wrongLengths();
+        verifyIsRefusedWithout96Bytes();
         CHECK.finish();
     }
 
@@ -88,39 +93,71 @@ public final class VerifyTest {
         }
     }
 
-    private static void theKeyMustBeAPoint() {
+    /** For the neutral key [S]B alone is due, so any S can be tried; one too large would be right but for its size. */
+    private static void theHighestAndTheLowestSAreGood() {
+        byte[] minusBase = Reference.encode(Reference.negate(Reference.BASE));
+        byte[] base = Reference.encode(Reference.BASE);
+        BigInteger l = Reference.L;
+        CHECK.due("S = 0", verdict(NEUTRAL, signature(NEUTRAL, Reference.ZERO), MESSAGE), 0);
+        CHECK.due("S = 1", verdict(NEUTRAL, signature(base, Reference.ONE), MESSAGE), 0);
+        CHECK.due("S = L - 1", verdict(NEUTRAL, signature(minusBase, l.subtract(Reference.ONE)), MESSAGE), 0);
+        CHECK.due("S = L", verdict(NEUTRAL, signature(NEUTRAL, l), MESSAGE), 1);
+        CHECK.due("S = L + 1", verdict(NEUTRAL, signature(base, l.add(Reference.ONE)), MESSAGE), 1);
+    }
+
+    private static void yMustBeBelowThePrime() {
         for (int above = 0; above < 19; above++) {
             BigInteger y = Reference.P.add(Reference.number(above));
             CHECK.due("y = p + " + above, verdict(Bytes.ofNumber(y), SIGNATURE, MESSAGE), 2);
             CHECK.due("y = p + " + above + ", signed", verdict(Bytes.ofNumber(y.setBit(255)), SIGNATURE, MESSAGE), 2);
         }
-        CHECK.due("y = 1, signed", verdict(Bytes.ofNumber(Reference.ONE.setBit(255)), SIGNATURE, MESSAGE), 2);
-        BigInteger minusOne = Reference.P.subtract(Reference.ONE);
-        CHECK.due("y = -1, signed", verdict(Bytes.ofNumber(minusOne.setBit(255)), SIGNATURE, MESSAGE), 2);
-        CHECK.due("y = -1", verdict(Bytes.ofNumber(minusOne), SIGNATURE, MESSAGE), 3);
-        for (int y = 0; y < 40; y++) {
+        byte[] highest = Bytes.ofNumber(Reference.P.subtract(Reference.ONE));
+        CHECK.due("y = p - 1", verdict(highest, SIGNATURE, MESSAGE), 3);
+        byte[] lowest = Bytes.ofNumber(Reference.ZERO);
+        CHECK.due("y = 0", verdict(lowest, SIGNATURE, MESSAGE), 3);
+        CHECK.due("y = 0, signed", verdict(Bytes.flipped(lowest, 255), SIGNATURE, MESSAGE), 3);
+    }
+
+    private static void thereMustBeAnX() {
+        int[] seen = new int[4];
+        for (int y = 2; y < 40; y++) {
             byte[] key = Bytes.ofNumber(Reference.number(y));
             int due = Reference.decode(key) == null ? 2 : 3;
+            seen[due]++;
             CHECK.due("y = " + y, verdict(key, SIGNATURE, MESSAGE), due);
+            CHECK.due("y = " + y + ", signed", verdict(Bytes.flipped(key, 255), SIGNATURE, MESSAGE), due);
+        }
+        CHECK.due("both answers were seen", seen[2] > 5 && seen[3] > 5, true);
+    }
+
+    private static void anXOf0HasNoSign() {
+        for (BigInteger y : new BigInteger[] {Reference.ONE, Reference.P.subtract(Reference.ONE)}) {
+            CHECK.due("y = " + y, verdict(Bytes.ofNumber(y), SIGNATURE, MESSAGE), 3);
+            CHECK.due("y = " + y + ", signed", verdict(Bytes.ofNumber(y.setBit(255)), SIGNATURE, MESSAGE), 2);
         }
     }
 
     private static void theFirstFaultIsTold() {
         byte[] noPoint = Bytes.ofNumber(Reference.P);
         CHECK.due("L and no point", verdict(noPoint, signature(R, Reference.L), MESSAGE), 1);
+        CHECK.due("L and another message", verdict(KEY, signature(R, Reference.L), new byte[1]), 1);
         CHECK.due("no point and another message", verdict(noPoint, SIGNATURE, new byte[1]), 2);
     }
 
-    /** The neutral point is a key for which [S]B alone is due; no other form of it will do as the first 32 bytes. */
     private static void keysOfSmallOrderAreKeys() {
         CHECK.due("all neutral", verdict(NEUTRAL, signature(NEUTRAL, Reference.ZERO), MESSAGE), 0);
         byte[] five = Reference.encode(Reference.multiply(Reference.number(5), Reference.BASE));
         CHECK.due("[5]B", verdict(NEUTRAL, signature(five, Reference.number(5)), MESSAGE), 0);
         CHECK.due("[5]B for 6", verdict(NEUTRAL, signature(five, Reference.number(6)), MESSAGE), 3);
+    }
+
+    /** No other form of the due point will do, though a careless reader would take it for the same. */
+    private static void justTheFirst32BytesAreDue() {
         byte[] signed = Bytes.ofNumber(Reference.ONE.setBit(255));
         CHECK.due("neutral, signed", verdict(NEUTRAL, signature(signed, Reference.ZERO), MESSAGE), 3);
         byte[] above = Bytes.ofNumber(Reference.P.add(Reference.ONE));
         CHECK.due("neutral as p + 1", verdict(NEUTRAL, signature(above, Reference.ZERO), MESSAGE), 3);
+        CHECK.due("no point at all", verdict(KEY, signature(Bytes.ofNumber(Reference.P), S), MESSAGE), 3);
     }
 
     /** A key with a part of small order tells the hash's number from its remainder by L. */
@@ -143,6 +180,11 @@ public final class VerifyTest {
             }
         }
         CHECK.due("both answers were seen", seen[0] > 20 && seen[3] > 20, true);
+    }
+
+    /** The shortest run that tells the whole number from its remainder by L, with which the answer would be 3. */
+    private static void aClaimOfZerosIsGood() {
+        CHECK.due("verify() of 96 bytes of 0", verdict(new byte[32], new byte[64], new byte[0]), 0);
     }
 
     private static byte[] signedFor(byte[] publicKey, byte[] message) {
@@ -184,12 +226,10 @@ public final class VerifyTest {
         CHECK.due("signatures made by verify", x.count(4), 0);
     }
 
-    private static void wrongLengths() {
-        CurveKeys x = new CurveKeys();
-        for (int length : new int[] {0, 32, 64, 95, 97, 192}) {
-            x.end(0);
-            Bytes.feed(x, new byte[length]);
-            CHECK.dueThrow("verify() of " + length, x, IllegalArgumentException.class, () -> x.verify());
+    private static void verifyIsRefusedWithout96Bytes() {
+        for (int length : new int[] {0, 32, 64, 95, 97, 128, 192, 65536}) {
+            CHECK.dueRefusal("verify() of " + length, () -> Made.with(1, length), IllegalArgumentException.class,
+                    x -> x.verify());
         }
     }
 }
